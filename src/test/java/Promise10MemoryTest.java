@@ -16,6 +16,12 @@ public final class Promise10MemoryTest {
                 }
             }
         }
+        for (int low = 0; low <= 7; low++) {
+            for (int high = low; high <= 7; high++) {
+                afterAnUpwardCall(low, high);
+                withAnotherQ(low, high);
+            }
+        }
         places();
         ownCode();
         everyWordValue();
@@ -55,6 +61,50 @@ public final class Promise10MemoryTest {
         g.poke(INNER, 4, Check.word(op, 9, 9));
         check.due("the call", g.run(1), 1);
         check.due("the ring in the call", g.state(RingGates.S_RING), lower);
+        return g;
+    }
+
+    /** The pointer comes from a lower ring, so the ring of the process decides. */
+    private static void afterAnUpwardCall(int low, int high) {
+        String what = " for ring " + low + " at ring " + high;
+        step(upward(low, high, RingGates.OP_LD), "LD" + what, true, high <= 5);
+        step(upward(low, high, RingGates.OP_ST), "ST" + what, false, high <= 2);
+    }
+
+    private static RingGates upward(int low, int high, int op) {
+        RingGates g = ready(3, low, RingGates.OP_CALL);
+        g.defineSegment(INNER, 8, RingGates.FLAG_EXEC, Check.brackets(high, high, 7));
+        g.poke(INNER, 4, Check.word(op));
+        check.due("the upward call", g.run(1), 1);
+        check.due("P in the call", g.state(RingGates.S_P), Check.pointer(DATA, 9, low));
+        return g;
+    }
+
+    /** Q keeps the caller's ring, P is made anew in the callee: only P's ring counts, and ADP keeps it. */
+    private static void withAnotherQ(int low, int high) {
+        String what = " with Q of ring " + high + " at ring " + low;
+        step(renewed(low, high, RingGates.OP_LD, false), "LD" + what, true, low <= 5);
+        step(renewed(low, high, RingGates.OP_ST, false), "ST" + what, false, low <= 2);
+        what = " with Q of ring " + low + ", P of ring " + high + " at ring " + low;
+        step(renewed(low, high, RingGates.OP_LD, true), "LD" + what, true, high <= 5);
+        step(renewed(low, high, RingGates.OP_ST, true), "ST" + what, false, high <= 2);
+    }
+
+    private static RingGates renewed(int low, int high, int op, boolean swapped) {
+        RingGates g = ready(3, high, RingGates.OP_CALL);
+        g.defineSegment(INNER, 16, RingGates.FLAG_EXEC, Check.brackets(low, low, 7));
+        g.addGate(INNER, 4);
+        g.poke(INNER, 4, Check.word(RingGates.OP_JMP, 0, 8));
+        Check.program(g, INNER, 8, Check.word(RingGates.OP_SWP), Check.word(RingGates.OP_PTR, DATA, 8));
+        if (swapped) {
+            Check.program(g, INNER, 10, Check.word(RingGates.OP_SWP), Check.word(RingGates.OP_ADP, 0, 0));
+        } else {
+            Check.program(g, INNER, 10, Check.word(RingGates.OP_RNG), Check.word(RingGates.OP_ADP, 0, 1));
+        }
+        Check.program(g, INNER, 12, Check.immediate(RingGates.OP_LDI, 500), Check.word(op));
+        check.due("the callee's pointers", g.run(7), 7);
+        check.due("P in the callee", g.state(RingGates.S_P), Check.pointer(DATA, 9, swapped ? high : low));
+        check.due("Q's ring in the callee", g.state(RingGates.S_Q) & 255, swapped ? low : high);
         return g;
     }
 
