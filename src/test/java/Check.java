@@ -64,6 +64,15 @@ final class Check {
         }
     }
 
+    /** The next step must fault with this code and change nothing but the status and the code. */
+    void faults(RingGates g, String what, int code) {
+        List<String> want = fullView(g);
+        want.set(0, "state(0)=" + RingGates.STATUS_FAULTED);
+        want.set(1, "state(1)=" + code);
+        due(what, g.run(1), 0);
+        same(what, fullView(g), want);
+    }
+
     void end() {
         System.out.println(title + ": " + asked + " checks, " + wrong + " wrong");
         if (wrong != 0 || asked == 0) {

@@ -40,14 +40,6 @@ public final class Promise10CallTest {
         return g;
     }
 
-    private static void fault(RingGates g, String what, int code) {
-        List<String> want = Check.fullView(g);
-        want.set(0, "state(0)=" + RingGates.STATUS_FAULTED);
-        want.set(1, "state(1)=" + code);
-        check.due(what, g.run(1), 0);
-        check.same(what, Check.fullView(g), want);
-    }
-
     private static void everyRing(int r1, int r2, int r3) {
         int brackets = Check.brackets(r1, r2, r3);
         for (int ring = 0; ring <= 7; ring++) {
@@ -56,15 +48,15 @@ public final class Promise10CallTest {
                 for (int flags = 4; flags <= 7; flags += 3) {
                     RingGates g = ready(flags, brackets, ring, TARGET, entry);
                     if (ring > r3) {
-                        fault(g, what, RingGates.F_CALL);
+                        check.faults(g, what, RingGates.F_CALL);
                     } else if (ring > r2 && entry != GATE) {
-                        fault(g, what, RingGates.F_GATE);
+                        check.faults(g, what, RingGates.F_GATE);
                     } else {
                         enters(g, what, ring, entry, ring < r1 ? r1 : ring > r2 ? r2 : ring);
                     }
                 }
             }
-            fault(ready(3, brackets, ring, TARGET, GATE), what + " without FLAG_EXEC", RingGates.F_CALL);
+            check.faults(ready(3, brackets, ring, TARGET, GATE), what + " without FLAG_EXEC", RingGates.F_CALL);
         }
     }
 
@@ -92,13 +84,13 @@ public final class Promise10CallTest {
         int low = Check.brackets(1, 2, 3);
         int[] undefined = {0, 2, 4, 5, 7, 8, 128, 255};
         for (int x : undefined) {
-            fault(ready(4, low, 7, x, 255), "an undefined slot " + x, RingGates.F_SEG);
+            check.faults(ready(4, low, 7, x, 255), "an undefined slot " + x, RingGates.F_SEG);
         }
-        fault(ready(0, low, 7, TARGET, LENGTH), "beyond the length", RingGates.F_BOUND);
-        fault(ready(0, low, 7, TARGET, 255), "far beyond the length", RingGates.F_BOUND);
-        fault(ready(0, low, 3, TARGET, PLAIN), "no flag and no gate", RingGates.F_CALL);
-        fault(ready(4, low, 4, TARGET, PLAIN), "above r3 and no gate", RingGates.F_CALL);
-        fault(ready(4, low, 3, TARGET, PLAIN), "no gate", RingGates.F_GATE);
+        check.faults(ready(0, low, 7, TARGET, LENGTH), "beyond the length", RingGates.F_BOUND);
+        check.faults(ready(0, low, 7, TARGET, 255), "far beyond the length", RingGates.F_BOUND);
+        check.faults(ready(0, low, 3, TARGET, PLAIN), "no flag and no gate", RingGates.F_CALL);
+        check.faults(ready(4, low, 4, TARGET, PLAIN), "above r3 and no gate", RingGates.F_CALL);
+        check.faults(ready(4, low, 3, TARGET, PLAIN), "no gate", RingGates.F_GATE);
     }
 
     private static void depthOfFrames() {
@@ -110,17 +102,17 @@ public final class Promise10CallTest {
             g.start(0, 0, 2);
             check.due("calls at depth " + depth, g.run(depth), depth);
             check.due("frames at depth " + depth, g.state(RingGates.S_DEPTH), depth);
-            fault(g, "one call more at depth " + depth, RingGates.F_FRAMES);
+            check.faults(g, "one call more at depth " + depth, RingGates.F_FRAMES);
             g.start(0, 0, 2);
             g.run(depth);
             g.poke(0, 0, Check.word(RingGates.OP_CALL, 1, 0));
-            fault(g, "F_CALL comes before F_FRAMES", RingGates.F_CALL);
+            check.faults(g, "F_CALL comes before F_FRAMES", RingGates.F_CALL);
             g.defineSegment(1, 8, RingGates.FLAG_EXEC, Check.brackets(0, 0, 7));
             g.poke(0, 0, Check.word(RingGates.OP_CALL, 0, 0));
             g.start(0, 0, 2);
             g.run(depth);
             g.poke(0, 0, Check.word(RingGates.OP_CALL, 1, 0));
-            fault(g, "F_GATE comes before F_FRAMES", RingGates.F_GATE);
+            check.faults(g, "F_GATE comes before F_FRAMES", RingGates.F_GATE);
         }
     }
 
@@ -192,7 +184,7 @@ public final class Promise10CallTest {
     private static void returnWithoutFrame() {
         RingGates g = ready(4, Check.brackets(0, 0, 0), 3, TARGET, GATE);
         g.poke(CODE, 5, Check.word(RingGates.OP_RET));
-        fault(g, "RET without a frame", RingGates.F_FRAMES);
+        check.faults(g, "RET without a frame", RingGates.F_FRAMES);
     }
 
     private static void returnBeyondTheEnd() {
@@ -205,14 +197,14 @@ public final class Promise10CallTest {
         check.due("its return", g.frame(0, RingGates.FR_RETURN), Check.ic(7, 32));
         check.due("RET", g.run(1), 1);
         check.process("returned", g, RingGates.STATUS_READY, 0, 0, Check.ic(7, 32), 0, 2);
-        fault(g, "the fetch after that", RingGates.F_BOUND);
+        check.faults(g, "the fetch after that", RingGates.F_BOUND);
         g.start(7, 31, 0);
         g.run(1);
         g.defineSegment(6, 8, RingGates.FLAG_EXEC, 0);
         g.defineSegment(7, 1, RingGates.FLAG_EXEC, Check.brackets(0, 0, 0));
         g.poke(7, 0, Check.word(RingGates.OP_RET));
         check.due("RET into a segment that was shortened", g.run(1), 1);
-        fault(g, "and the fetch there", RingGates.F_BOUND);
+        check.faults(g, "and the fetch there", RingGates.F_BOUND);
     }
 
     private static void cutAtReturn() {

@@ -109,18 +109,16 @@ public final class Promise10MemoryTest {
     }
 
     private static void step(RingGates g, String what, boolean load, boolean due) {
+        if (!due) {
+            check.faults(g, what, load ? RingGates.F_READ : RingGates.F_WRITE);
+            return;
+        }
         List<String> before = Check.fullView(g);
         int ic = g.state(RingGates.S_IC);
         int count = g.state(RingGates.S_COUNT);
         int ring = g.state(RingGates.S_RING);
         int pointer = g.state(RingGates.S_P);
-        check.due(what, g.run(1), due ? 1 : 0);
-        if (!due) {
-            before.set(0, "state(0)=" + RingGates.STATUS_FAULTED);
-            before.set(1, "state(1)=" + (load ? RingGates.F_READ : RingGates.F_WRITE));
-            check.same(what, Check.fullView(g), before);
-            return;
-        }
+        check.due(what, g.run(1), 1);
         check.process(what, g, RingGates.STATUS_READY, 0, ring, ic + 1, load ? -123456 : 500, count + 1);
         check.due(what + ", the word", g.peek(DATA, 9), load ? -123456 : 500);
         check.due(what + ", P", g.state(RingGates.S_P), pointer);
@@ -155,11 +153,7 @@ public final class Promise10MemoryTest {
         g.poke(CODE, 1, Check.word(RingGates.OP_PTR, seg, off));
         g.start(CODE, 0, 1);
         g.run(2);
-        List<String> want = Check.fullView(g);
-        want.set(0, "state(0)=" + RingGates.STATUS_FAULTED);
-        want.set(1, "state(1)=" + fault);
-        check.due("op " + op + " at " + seg + " " + off, g.run(1), 0);
-        check.same("op " + op + " at " + seg + " " + off, Check.fullView(g), want);
+        check.faults(g, "op " + op + " at " + seg + " " + off, fault);
     }
 
     private static void ownCode() {

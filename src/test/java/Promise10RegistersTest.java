@@ -130,11 +130,7 @@ public final class Promise10RegistersTest {
         for (int op = 16; op <= 255; op++) {
             RingGates g = with(3, Check.immediate(RingGates.OP_LDI, 4), Check.word(op, 2, 1));
             g.run(1);
-            List<String> want = Check.fullView(g);
-            want.set(0, "state(0)=" + RingGates.STATUS_FAULTED);
-            want.set(1, "state(1)=" + RingGates.F_OPCODE);
-            check.due("op " + op, g.run(9), 0);
-            check.same("op " + op, Check.fullView(g), want);
+            check.faults(g, "op " + op, RingGates.F_OPCODE);
         }
         RingGates g = with(3, Check.word(RingGates.OP_HLT, 200, 100));
         List<String> want = Check.fullView(g);

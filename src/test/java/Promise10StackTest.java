@@ -1,5 +1,3 @@
-import java.util.List;
-
 /** Promise 10: PUSH and POP. */
 public final class Promise10StackTest {
     private static final Check check = new Check("promise 10, ring stacks");
@@ -14,14 +12,6 @@ public final class Promise10StackTest {
         floorOfAnotherRing();
         floorOfTheInnermostFrame();
         check.end();
-    }
-
-    private static void fault(RingGates g, String what, int code) {
-        List<String> want = Check.fullView(g);
-        want.set(0, "state(0)=" + RingGates.STATUS_FAULTED);
-        want.set(1, "state(1)=" + code);
-        check.due(what, g.run(1), 0);
-        check.same(what, Check.fullView(g), want);
     }
 
     private static void fullAndEmpty(int ring, int depth) {
@@ -43,7 +33,7 @@ public final class Promise10StackTest {
             check.due(what + ", height of " + other, g.stackHeight(other), other == ring ? depth : 0);
         }
         g.run(1);
-        fault(g, what + ", PUSH on a full stack", RingGates.F_STACK);
+        check.faults(g, what + ", PUSH on a full stack", RingGates.F_STACK);
         emptied(ring, depth);
     }
 
@@ -64,7 +54,7 @@ public final class Promise10StackTest {
             check.due(what + ", the removed value", g.stackValue(ring, i - 1), 0);
             check.due(what + ", JMP", g.run(1), 1);
         }
-        fault(g, what + ", POP of an empty stack", RingGates.F_STACK);
+        check.faults(g, what + ", POP of an empty stack", RingGates.F_STACK);
     }
 
     private static void floorOfTheSameRing() {
@@ -77,7 +67,7 @@ public final class Promise10StackTest {
         g.start(0, 0, 3);
         check.due("down to the floor", g.run(6), 6);
         check.due("A", g.state(RingGates.S_ACC), 9);
-        fault(g, "POP below the floor of the same ring", RingGates.F_STACK);
+        check.faults(g, "POP below the floor of the same ring", RingGates.F_STACK);
         g.poke(0, 11, Check.word(RingGates.OP_RET));
         g.start(0, 0, 3);
         check.due("and back", g.run(8), 8);
@@ -96,7 +86,7 @@ public final class Promise10StackTest {
         g.start(0, 0, 4);
         g.run(3);
         check.due("the floor is of the entered ring", g.frame(0, RingGates.FR_FLOOR), 0);
-        fault(g, "POP of the callee's empty stack", RingGates.F_STACK);
+        check.faults(g, "POP of the callee's empty stack", RingGates.F_STACK);
         g.poke(1, 0, Check.immediate(RingGates.OP_LDI, 5));
         Check.program(g, 1, 1, Check.word(RingGates.OP_PUSH), Check.immediate(RingGates.OP_LDI, 6),
             Check.word(RingGates.OP_POP));
@@ -122,6 +112,6 @@ public final class Promise10StackTest {
         check.due("ring", g.state(RingGates.S_RING), 4);
         check.due("outer floor", g.frame(0, RingGates.FR_FLOOR), 0);
         check.due("inner floor", g.frame(1, RingGates.FR_FLOOR), 2);
-        fault(g, "POP below the innermost floor", RingGates.F_STACK);
+        check.faults(g, "POP below the innermost floor", RingGates.F_STACK);
     }
 }
