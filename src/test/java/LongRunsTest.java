@@ -46,7 +46,7 @@ public final class LongRunsTest {
         for (int call = 0; call < CALLS && check.wrongSoFar() == 0; call++) {
             String what = "object " + object + ", call " + call;
             oneCall(g, m, what, slots, words);
-            check.same(what, Check.fullView(g), m.fullView());
+            check.same(what, View.of(g), m.view());
         }
     }
 
@@ -92,7 +92,7 @@ public final class LongRunsTest {
         int r1 = pick(4);
         int r2 = r1 + pick(4);
         int r3 = r2 + pick(3);
-        int brackets = pick(15) == 0 ? pick(5000) - 100 : Check.brackets(r1, r2, r3);
+        int brackets = pick(15) == 0 ? pick(5000) - 100 : Code.brackets(r1, r2, r3);
         check.due(what + " define", g.defineSegment(seg, length, flags, brackets) ? 1 : 0,
             m.defineSegment(seg, length, flags, brackets) ? 1 : 0);
         for (int off = 0; off < length; off++) {
@@ -113,6 +113,6 @@ public final class LongRunsTest {
         int high = pick(5) == 0 ? pick(256) : 0;
         int x = pick(30) == 0 ? pick(256) : pick(slots);
         int y = pick(30) == 0 ? pick(256) : pick(words);
-        return high << 24 | Check.word(op, x, y);
+        return high << 24 | Code.op(op, x, y);
     }
 }

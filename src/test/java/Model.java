@@ -245,58 +245,49 @@ final class Model {
         q = f.q;
     }
 
-    /** The same lines as Check.fullView. */
-    List<String> fullView() {
-        List<String> view = new ArrayList<>();
-        int[] states = {status, fault, ring, seg * 256 + off, acc, p.packed(), q.packed(), frames.size(), count};
-        for (int which = 0; which <= 8; which++) {
-            view.add("state(" + which + ")=" + states[which]);
-        }
-        viewFrames(view);
-        viewStacks(view);
+    View view() {
+        List<Integer> seen = new ArrayList<>(List.of(status, fault, ring, seg * 256 + off, acc,
+            p.packed(), q.packed(), frames.size(), count));
+        viewFrames(seen);
+        viewStacks(seen);
         for (int number = 0; number <= 8; number++) {
-            viewSlot(view, number);
+            viewSlot(seen, number);
         }
-        return view;
+        return new View(seen.stream().mapToInt(Integer::intValue).toArray());
     }
 
-    private void viewFrames(List<String> view) {
+    private void viewFrames(List<Integer> seen) {
         Iterator<Frame> each = frames.iterator();
         for (int level = 0; level <= 16; level++) {
-            int[] fields = {-1, -1, -1, -1, -1, -1};
             if (each.hasNext()) {
                 Frame f = each.next();
-                fields = new int[] {f.returnSeg * 256 + f.returnOff, f.callerRing, f.floor,
-                    f.p.packed(), f.q.packed(), f.ring};
-            }
-            for (int field = 0; field <= 5; field++) {
-                view.add("frame(" + level + "," + field + ")=" + fields[field]);
+                seen.addAll(List.of(f.returnSeg * 256 + f.returnOff, f.callerRing, f.floor,
+                    f.p.packed(), f.q.packed(), f.ring));
+            } else {
+                seen.addAll(List.of(-1, -1, -1, -1, -1, -1));
             }
         }
     }
 
-    private void viewStacks(List<String> view) {
+    private void viewStacks(List<Integer> seen) {
         for (int k = 0; k <= 7; k++) {
-            view.add("stackHeight(" + k + ")=" + stacks.get(k).size());
+            seen.add(stacks.get(k).size());
             Iterator<Integer> each = stacks.get(k).iterator();
             for (int index = 0; index <= 16; index++) {
-                view.add("stackValue(" + k + "," + index + ")=" + (each.hasNext() ? each.next() : 0));
+                seen.add(each.hasNext() ? each.next() : 0);
             }
         }
     }
 
-    private void viewSlot(List<String> view, int number) {
+    private void viewSlot(List<Integer> seen, int number) {
         Segment s = slot(number);
-        int packed = s == null ? -1 : s.words.length + s.flags * 256 + s.r1 * 4096 + s.r2 * 65536
-            + s.r3 * 1048576 + s.gates.size() * 16777216;
-        view.add("segment(" + number + ")=" + packed);
+        seen.add(s == null ? -1 : s.words.length + s.flags * 256 + s.r1 * 4096 + s.r2 * 65536
+            + s.r3 * 1048576 + s.gates.size() * 16777216);
         for (int index = 0; index <= 4; index++) {
-            int gate = s == null || index >= s.gates.size() ? -1 : s.gates.get(index);
-            view.add("gate(" + number + "," + index + ")=" + gate);
+            seen.add(s == null || index >= s.gates.size() ? -1 : s.gates.get(index));
         }
         for (int offset = 0; offset <= 32; offset++) {
-            int word = slotWith(number, offset) == null ? 0 : s.words[offset];
-            view.add("peek(" + number + "," + offset + ")=" + word);
+            seen.add(slotWith(number, offset) == null ? 0 : s.words[offset]);
         }
     }
 }

@@ -1,65 +1,71 @@
-import java.util.List;
-
 /** Promise 4: poke. */
 public final class Promise04PokeTest {
     private static final Check check = new Check("promise 4");
-    private static final int[] VALUES = {0, 1, -1, 65536, Integer.MIN_VALUE, Integer.MAX_VALUE};
 
     public static void main(String[] args) {
-        for (int status : Scene.STATUSES) {
-            refusals(status);
-            for (int value : VALUES) {
-                changesOneWordAlone(status, value);
-            }
-        }
-        withoutRingTests();
-        everyWord();
+        check.sentence("`poke(seg, off, value)` is a supervisor write with no ring tests.",
+            Promise04PokeTest::noRingTests);
+        check.sentence("It is refused (answers false, no change) unless seg is a defined slot",
+            Promise04PokeTest::definedSlot);
+        check.sentence("and 0 <= off < L.", Promise04PokeTest::offset);
+        check.sentence("Otherwise word off of seg becomes value, and it answers true.", Promise04PokeTest::everyWord);
+        check.sentence("Any int value is accepted.", Promise04PokeTest::everyValue);
+        check.sentence("Nothing else changes, in any status.", Promise04PokeTest::nothingElse);
         check.end();
     }
 
-    private static void refusals(int status) {
-        int[][] wrong = {
-            {-1, 0}, {4, 0}, {8, 0}, {Integer.MIN_VALUE, 0}, {Integer.MAX_VALUE, 0}, {Scene.UNDEFINED, 0},
-            {Scene.GATED, -1}, {Scene.GATED, 12}, {Scene.GATED, 32}, {Scene.GATED, Integer.MIN_VALUE},
-            {Scene.GATED, Integer.MAX_VALUE}, {Scene.DATA, 16}, {Scene.DATA, -16}};
-        RingGates g = Scene.inStatus(status);
-        List<String> before = Check.fullView(g);
-        for (int[] w : wrong) {
-            String what = "poke " + w[0] + " " + w[1] + " in status " + status;
-            check.no(what, g.poke(w[0], w[1], 9));
-            check.same(what, Check.fullView(g), before);
-        }
+    private static void refused(RingGates g, int seg, int off) {
+        check.refused(g, "poke(" + seg + ", " + off + ", 9)", () -> g.poke(seg, off, 9));
     }
 
-    private static void changesOneWordAlone(int status, int value) {
-        for (int seg = 0; seg < 3; seg++) {
-            int last = (g(status).segment(seg) & 255) - 1;
-            for (int off = 0; off <= last; off += last) {
-                String what = "poke " + seg + " " + off + " " + value + " in status " + status;
-                RingGates g = g(status);
-                List<String> want = Check.fullView(g);
-                want.replaceAll(oneWord(seg, off, value));
-                check.yes(what, g.poke(seg, off, value));
-                check.same(what, Check.fullView(g), want);
+    private static void noRingTests() {
+        for (int flags = 0; flags <= 7; flags++) {
+            for (int ring = 0; ring <= 7; ring++) {
+                RingGates g = new RingGates(2, 8, 4);
+                g.defineSegment(0, 8, flags, 0);
+                g.start(0, 0, ring);
+                check.yes("poke with flags " + flags + " at ring " + ring, g.poke(0, 7, 123));
+                check.due("the word", g.peek(0, 7), 123);
             }
         }
     }
 
-    private static java.util.function.UnaryOperator<String> oneWord(int seg, int off, int value) {
-        String head = "peek(" + seg + "," + off + ")=";
-        return line -> line.startsWith(head) ? head + value : line;
+    private static void definedSlot() {
+        for (int segments = 2; segments <= 8; segments++) {
+            RingGates g = new RingGates(segments, 16, 4);
+            refused(g, 0, 0);
+            refused(g, segments - 1, 0);
+            for (int seg : Code.outside(0, segments - 1)) {
+                refused(g, seg, 0);
+            }
+            g.defineSegment(0, 8, 0, 0);
+            g.defineSegment(segments - 1, 8, 0, 0);
+            check.yes("the first slot", g.poke(0, 0, 9));
+            check.yes("the last slot", g.poke(segments - 1, 0, 9));
+        }
+        for (int status : Scene.STATUSES) {
+            refused(Scene.inStatus(status), Scene.UNDEFINED, 0);
+            refused(Scene.inStatus(status), -1, 0);
+            refused(Scene.inStatus(status), Scene.SLOTS, 0);
+        }
     }
 
-    private static RingGates g(int status) {
-        return Scene.inStatus(status);
-    }
-
-    private static void withoutRingTests() {
-        RingGates g = new RingGates(2, 8, 4);
-        g.defineSegment(0, 8, 0, 0);
-        g.start(0, 0, 7);
-        check.yes("poke with no flag at ring 7", g.poke(0, 7, 123));
-        check.due("the word", g.peek(0, 7), 123);
+    private static void offset() {
+        for (int length = 1; length <= 32; length++) {
+            RingGates g = new RingGates(3, 32, 4);
+            g.defineSegment(0, 32, 7, 0);
+            g.defineSegment(1, length, 7, 0);
+            g.defineSegment(2, 32, 7, 0);
+            for (int off : Code.outside(0, length - 1)) {
+                refused(g, 1, off);
+            }
+            check.yes("the first word", g.poke(1, 0, 9));
+            check.yes("the last word", g.poke(1, length - 1, 9));
+        }
+        for (int status : Scene.STATUSES) {
+            refused(Scene.inStatus(status), Scene.GATED, -1);
+            refused(Scene.inStatus(status), Scene.GATED, Scene.GATED_LENGTH);
+        }
     }
 
     private static void everyWord() {
@@ -72,6 +78,28 @@ public final class Promise04PokeTest {
         }
         for (int i = 0; i < 256; i++) {
             check.due("word number " + i, g.peek(i / 32, i % 32), 5000 - i);
+        }
+    }
+
+    private static void everyValue() {
+        RingGates g = new RingGates(2, 8, 4);
+        g.defineSegment(1, 8, 0, 0);
+        for (int value : Code.INTS) {
+            check.yes("poke " + value, g.poke(1, 7, value));
+            check.due("the word", g.peek(1, 7), value);
+        }
+    }
+
+    private static void nothingElse() {
+        for (int status : Scene.STATUSES) {
+            for (int seg = 0; seg < Scene.UNDEFINED; seg++) {
+                for (int off : new int[] {0, (Scene.inStatus(status).segment(seg) & 255) - 1}) {
+                    RingGates g = Scene.inStatus(status);
+                    View want = View.of(g).word(seg, off, -99);
+                    check.yes("poke in status " + status, g.poke(seg, off, -99));
+                    check.same("poke in status " + status, View.of(g), want);
+                }
+            }
         }
     }
 }

@@ -1,185 +1,246 @@
-import java.util.List;
-
 /** Promise 10: LD and ST. */
 public final class Promise10MemoryTest {
     private static final Check check = new Check("promise 10, memory");
-    private static final int DATA = 1;
-    private static final int CODE = 2;
-    private static final int INNER = 3;
+    private static final int TARGET = 0;
+    private static final int LENGTH = 10;
+    private static final int LAST = 9;
+    private static final int HELD = -123456;
+    private static final int[] OPS = {RingGates.OP_LD, RingGates.OP_ST};
 
     public static void main(String[] args) {
-        for (int flags = 0; flags <= 7; flags++) {
-            for (int ring = 0; ring <= 7; ring++) {
-                direct(flags, ring);
-                for (int lower = 0; lower <= ring; lower++) {
-                    throughAGate(flags, ring, lower);
-                }
-            }
-        }
-        for (int low = 0; low <= 7; low++) {
-            for (int high = low; high <= 7; high++) {
-                afterAnUpwardCall(low, high);
-                withAnotherQ(low, high);
-            }
-        }
-        places();
-        ownCode();
-        everyWordValue();
+        check.sentence("P.seg is not a defined slot -> `F_SEG`.", Promise10MemoryTest::noDefinedSlot);
+        check.sentence("P.off >= L -> `F_BOUND`.", Promise10MemoryTest::beyondTheLength);
+        check.sentence("The bracket rule (`KIND_READ` for LD, `KIND_WRITE` for ST) at eff fails -> "
+            + "`F_READ` for LD, `F_WRITE` for ST.", Promise10MemoryTest::everyFlagAndRing);
+        check.sentence("For `OP_LD` and `OP_ST` the tests are, in order:", Promise10MemoryTest::order);
+        check.sentence("eff = max(R, P.ring).", Promise10MemoryTest::effectiveRing);
+        check.sentence("`OP_LD`: reads at eff the word P.off of slot P.seg; A = that word; next.",
+            Promise10MemoryTest::load);
+        check.sentence("`OP_ST`: writes at eff the word P.off of slot P.seg; that word = A; next.",
+            Promise10MemoryTest::store);
+        check.sentence("So after a completed LD, A equals that word. After a completed ST, that word equals A.",
+            Promise10MemoryTest::wordAndA);
+        check.sentence("In each case the matching access(P.seg, P.off, eff, kind) was true before the step.",
+            Promise10MemoryTest::asAccess);
         check.end();
     }
 
-    private static RingGates ready(int flags, int ring, int op) {
-        RingGates g = new RingGates(4, 16, 4);
-        g.defineSegment(DATA, 10, flags, Check.brackets(2, 5, 6));
-        g.addGate(DATA, 9);
-        g.poke(DATA, 9, -123456);
-        g.defineSegment(CODE, 16, RingGates.FLAG_EXEC, Check.brackets(0, 7, 7));
-        Check.program(g, CODE, 0, Check.immediate(RingGates.OP_LDI, 500),
-            Check.word(RingGates.OP_PTR, DATA, 9), Check.word(op, 3, 4));
-        g.start(CODE, 0, ring);
-        g.run(2);
+    /** A process with A = 500 and P = (seg, off, ring), before this op. */
+    private static RingGates ready(int op, int ring, int seg, int off) {
+        RingGates g = Code.ready(ring, Code.immediate(RingGates.OP_LDI, 500),
+            Code.op(RingGates.OP_PTR, seg, off), Code.op(op, 3, 4));
+        check.reaches(g, 2);
         return g;
     }
 
-    private static void direct(int flags, int ring) {
-        String what = " with flags " + flags + " at ring " + ring;
-        step(ready(flags, ring, RingGates.OP_LD), "LD" + what, true, (flags & 1) != 0 && ring <= 5);
-        step(ready(flags, ring, RingGates.OP_ST), "ST" + what, false, (flags & 2) != 0 && ring <= 2);
+    private static void target(RingGates g, int flags, int r1, int r2) {
+        g.defineSegment(TARGET, LENGTH, flags, Code.brackets(r1, r2, 7));
+        g.addGate(TARGET, LAST);
+        g.poke(TARGET, LAST, HELD);
     }
 
-    /** The pointer keeps the caller's ring, so the lower ring of the callee must not help. */
-    private static void throughAGate(int flags, int ring, int lower) {
-        String what = " with flags " + flags + " for ring " + ring + " at ring " + lower;
-        step(called(flags, ring, lower, RingGates.OP_LD), "LD" + what, true, (flags & 1) != 0 && ring <= 5);
-        step(called(flags, ring, lower, RingGates.OP_ST), "ST" + what, false, (flags & 2) != 0 && ring <= 2);
-    }
-
-    private static RingGates called(int flags, int ring, int lower, int op) {
-        RingGates g = ready(flags, ring, RingGates.OP_CALL);
-        g.defineSegment(INNER, 8, RingGates.FLAG_EXEC, Check.brackets(lower, lower, 7));
-        g.addGate(INNER, 4);
-        g.poke(INNER, 4, Check.word(op, 9, 9));
-        check.due("the call", g.run(1), 1);
-        check.due("the ring in the call", g.state(RingGates.S_RING), lower);
-        return g;
-    }
-
-    /** The pointer comes from a lower ring, so the ring of the process decides. */
-    private static void afterAnUpwardCall(int low, int high) {
-        String what = " for ring " + low + " at ring " + high;
-        step(upward(low, high, RingGates.OP_LD), "LD" + what, true, high <= 5);
-        step(upward(low, high, RingGates.OP_ST), "ST" + what, false, high <= 2);
-    }
-
-    private static RingGates upward(int low, int high, int op) {
-        RingGates g = ready(3, low, RingGates.OP_CALL);
-        g.defineSegment(INNER, 8, RingGates.FLAG_EXEC, Check.brackets(high, high, 7));
-        g.poke(INNER, 4, Check.word(op));
-        check.due("the upward call", g.run(1), 1);
-        check.due("P in the call", g.state(RingGates.S_P), Check.pointer(DATA, 9, low));
-        return g;
-    }
-
-    /** Q keeps the caller's ring, P is made anew in the callee: only P's ring counts, and ADP keeps it. */
-    private static void withAnotherQ(int low, int high) {
-        String what = " with Q of ring " + high + " at ring " + low;
-        step(renewed(low, high, RingGates.OP_LD, false), "LD" + what, true, low <= 5);
-        step(renewed(low, high, RingGates.OP_ST, false), "ST" + what, false, low <= 2);
-        what = " with Q of ring " + low + ", P of ring " + high + " at ring " + low;
-        step(renewed(low, high, RingGates.OP_LD, true), "LD" + what, true, high <= 5);
-        step(renewed(low, high, RingGates.OP_ST, true), "ST" + what, false, high <= 2);
-    }
-
-    private static RingGates renewed(int low, int high, int op, boolean swapped) {
-        RingGates g = ready(3, high, RingGates.OP_CALL);
-        g.defineSegment(INNER, 16, RingGates.FLAG_EXEC, Check.brackets(low, low, 7));
-        g.addGate(INNER, 4);
-        g.poke(INNER, 4, Check.word(RingGates.OP_JMP, 0, 8));
-        Check.program(g, INNER, 8, Check.word(RingGates.OP_SWP), Check.word(RingGates.OP_PTR, DATA, 8));
-        if (swapped) {
-            Check.program(g, INNER, 10, Check.word(RingGates.OP_SWP), Check.word(RingGates.OP_ADP, 0, 0));
-        } else {
-            Check.program(g, INNER, 10, Check.word(RingGates.OP_RNG), Check.word(RingGates.OP_ADP, 0, 1));
-        }
-        Check.program(g, INNER, 12, Check.immediate(RingGates.OP_LDI, 500), Check.word(op));
-        check.due("the callee's pointers", g.run(7), 7);
-        check.due("P in the callee", g.state(RingGates.S_P), Check.pointer(DATA, 9, swapped ? high : low));
-        check.due("Q's ring in the callee", g.state(RingGates.S_Q) & 255, swapped ? low : high);
-        return g;
-    }
-
-    private static void step(RingGates g, String what, boolean load, boolean due) {
+    /** The next step, of P = (TARGET, LAST), is completed or faults. */
+    private static void step(RingGates g, String what, int op, boolean due) {
+        boolean load = op == RingGates.OP_LD;
         if (!due) {
             check.faults(g, what, load ? RingGates.F_READ : RingGates.F_WRITE);
-            return;
-        }
-        List<String> before = Check.fullView(g);
-        int ic = g.state(RingGates.S_IC);
-        int count = g.state(RingGates.S_COUNT);
-        int ring = g.state(RingGates.S_RING);
-        int pointer = g.state(RingGates.S_P);
-        check.due(what, g.run(1), 1);
-        check.process(what, g, RingGates.STATUS_READY, 0, ring, ic + 1, load ? -123456 : 500, count + 1);
-        check.due(what + ", the word", g.peek(DATA, 9), load ? -123456 : 500);
-        check.due(what + ", P", g.state(RingGates.S_P), pointer);
-        before.removeIf(line -> line.startsWith("state(") || line.startsWith("peek(1,9)"));
-        List<String> after = Check.fullView(g);
-        after.removeIf(line -> line.startsWith("state(") || line.startsWith("peek(1,9)"));
-        check.same(what, after, before);
-    }
-
-    /** An undefined slot comes before the bound, and the bound before the bracket rule. */
-    private static void places() {
-        int[] ops = {RingGates.OP_LD, RingGates.OP_ST};
-        for (int op : ops) {
-            place(op, 0, 0, RingGates.F_SEG);
-            place(op, 3, 255, RingGates.F_SEG);
-            place(op, 4, 0, RingGates.F_SEG);
-            place(op, 7, 0, RingGates.F_SEG);
-            place(op, 8, 0, RingGates.F_SEG);
-            place(op, 255, 0, RingGates.F_SEG);
-            place(op, 128, 255, RingGates.F_SEG);
-            place(op, DATA, 10, RingGates.F_BOUND);
-            place(op, DATA, 16, RingGates.F_BOUND);
-            place(op, DATA, 32, RingGates.F_BOUND);
-            place(op, DATA, 255, RingGates.F_BOUND);
-            place(op, DATA, 9, op == RingGates.OP_LD ? RingGates.F_READ : RingGates.F_WRITE);
-            place(op, DATA, 0, op == RingGates.OP_LD ? RingGates.F_READ : RingGates.F_WRITE);
+        } else if (load) {
+            check.completes(g, what, View.of(g).next().state(RingGates.S_ACC, HELD));
+        } else {
+            check.completes(g, what, View.of(g).next().word(TARGET, LAST, 500));
         }
     }
 
-    private static void place(int op, int seg, int off, int fault) {
-        RingGates g = ready(0, 1, op);
-        g.poke(CODE, 1, Check.word(RingGates.OP_PTR, seg, off));
-        g.start(CODE, 0, 1);
-        g.run(2);
-        check.faults(g, "op " + op + " at " + seg + " " + off, fault);
+    private static void noDefinedSlot() {
+        for (int op : OPS) {
+            for (int seg = 0; seg <= 255; seg++) {
+                if (seg != Code.DATA && seg != Code.CODE) {
+                    check.faults(ready(op, 0, seg, 0), "slot " + seg, RingGates.F_SEG);
+                }
+            }
+            RingGates first = ready(op, 0, 0, LAST);
+            target(first, 3, 0, 0);
+            step(first, "the first slot, defined", op, true);
+        }
     }
 
-    private static void ownCode() {
+    private static void beyondTheLength() {
+        for (int op : OPS) {
+            for (int length = 1; length <= 16; length++) {
+                for (int off = 0; off <= 255; off++) {
+                    RingGates g = ready(op, 0, Code.FREE, off);
+                    g.defineSegment(Code.FREE, length, 3, 0);
+                    if (off >= length) {
+                        check.faults(g, "offset " + off + " with length " + length, RingGates.F_BOUND);
+                    } else {
+                        check.due("offset " + off + " with length " + length, g.run(1), 1);
+                    }
+                }
+            }
+        }
+    }
+
+    private static boolean rule(int op, int flags, int r1, int r2, int e) {
+        return op == RingGates.OP_LD ? (flags & 1) != 0 && e <= r2 : (flags & 2) != 0 && e <= r1;
+    }
+
+    private static void everyFlagAndRing() {
+        for (int op : OPS) {
+            for (int flags = 0; flags <= 7; flags++) {
+                for (int r1 = 0; r1 <= 7; r1++) {
+                    for (int r2 = r1; r2 <= 7; r2++) {
+                        for (int ring = 0; ring <= 7; ring++) {
+                            RingGates g = ready(op, ring, TARGET, LAST);
+                            target(g, flags, r1, r2);
+                            String what = "op " + op + " flags " + flags + " brackets " + r1 + r2 + " ring " + ring;
+                            step(g, what, op, rule(op, flags, r1, r2, ring));
+                        }
+                    }
+                }
+            }
+        }
+    }
+
+    /** Every later test fails as well, in each of these. */
+    private static void order() {
+        for (int op : OPS) {
+            check.faults(ready(op, 7, TARGET, 255), "no slot, no word", RingGates.F_SEG);
+            RingGates beyond = ready(op, 7, TARGET, LENGTH);
+            target(beyond, 0, 0, 0);
+            check.faults(beyond, "no word, no right", RingGates.F_BOUND);
+            RingGates within = ready(op, 7, TARGET, LAST);
+            target(within, 0, 0, 0);
+            step(within, "no right", op, false);
+        }
+    }
+
+    private static void effectiveRing() {
+        for (int op : OPS) {
+            for (int low = 0; low <= 7; low++) {
+                for (int high = low; high <= 7; high++) {
+                    step(lowered(op, high, low), "P of ring " + high + " at ring " + low, op, rule(op, 3, 2, 5, high));
+                    step(raised(op, low, high), "P of ring " + low + " at ring " + high, op, rule(op, 3, 2, 5, high));
+                    step(renewed(op, high, low), "Q of ring " + high + " at ring " + low, op, rule(op, 3, 2, 5, low));
+                }
+            }
+        }
+    }
+
+    /** P comes from a caller of a higher ring. */
+    private static RingGates lowered(int op, int ring, int lower) {
+        RingGates g = called(ring, lower, Code.op(op));
+        check.due("R", g.state(RingGates.S_RING), lower);
+        check.due("P", g.state(RingGates.S_P), Code.pointer(TARGET, LAST, ring));
+        return g;
+    }
+
+    /** P comes from a caller of a lower ring. */
+    private static RingGates raised(int op, int ring, int higher) {
+        RingGates g = called(ring, higher, Code.op(op));
+        check.due("R", g.state(RingGates.S_RING), higher);
+        check.due("P", g.state(RingGates.S_P), Code.pointer(TARGET, LAST, ring));
+        return g;
+    }
+
+    /** Q comes from a caller of a higher ring, and P is made in the callee. */
+    private static RingGates renewed(int op, int ring, int lower) {
+        RingGates g = called(ring, lower, Code.op(RingGates.OP_SWP), Code.op(RingGates.OP_PTR, TARGET, LAST),
+            Code.op(op));
+        check.reaches(g, 2);
+        check.due("P", g.state(RingGates.S_P), Code.pointer(TARGET, LAST, lower));
+        check.due("Q", g.state(RingGates.S_Q), Code.pointer(TARGET, LAST, ring));
+        return g;
+    }
+
+    /** A call from a ring into another, with P of the caller's ring, before the first of these words. */
+    private static RingGates called(int ring, int entered, int... words) {
+        RingGates g = ready(RingGates.OP_CALL, ring, TARGET, LAST);
+        target(g, 3, 2, 5);
+        g.defineSegment(Code.FREE, 16, RingGates.FLAG_EXEC, Code.brackets(entered, entered, 7));
+        g.addGate(Code.FREE, 4);
+        Code.put(g, Code.FREE, 4, words);
+        check.reaches(g, 1);
+        return g;
+    }
+
+    private static void load() {
+        for (int value : Code.INTS) {
+            for (int off : new int[] {0, 1, 31}) {
+                RingGates g = apart(RingGates.OP_LD, off);
+                g.poke(7, off, value);
+                check.completes(g, "LD of " + value, View.of(g).next().state(RingGates.S_ACC, value));
+            }
+        }
+    }
+
+    /** P = (7, off, 0) in an object of the greatest sizes, before this op. */
+    private static RingGates apart(int op, int off) {
+        RingGates g = new RingGates(8, 32, 16);
+        g.defineSegment(0, 8, RingGates.FLAG_EXEC, 0);
+        g.defineSegment(6, 32, 3, 0);
+        g.defineSegment(7, 32, 3, 0);
+        Code.put(g, 0, 0, Code.op(RingGates.OP_PTR, 7, off), Code.op(op));
+        g.start(0, 0, 0);
+        check.reaches(g, 1);
+        return g;
+    }
+
+    private static void store() {
+        for (int value : Code.INTS) {
+            for (int off : new int[] {0, 1, 15}) {
+                RingGates g = Code.withA(value, Code.op(RingGates.OP_PTR, Code.DATA, off), Code.op(RingGates.OP_ST));
+                check.reaches(g, 1);
+                check.completes(g, "ST of " + value, View.of(g).next().word(Code.DATA, off, value));
+            }
+        }
+        RingGates last = apart(RingGates.OP_ST, 31);
+        last.poke(7, 31, 5);
+        check.completes(last, "ST into the last word of all", View.of(last).next().word(7, 31, 0));
+    }
+
+    private static void wordAndA() {
+        for (int off = 0; off <= 31; off++) {
+            RingGates loaded = apart(RingGates.OP_LD, off);
+            loaded.poke(7, off, 1000 + off);
+            check.reaches(loaded, 1);
+            check.due("A after LD", loaded.state(RingGates.S_ACC), loaded.peek(7, off));
+            RingGates stored = apart(RingGates.OP_ST, off);
+            stored.poke(7, off, 1000 + off);
+            check.reaches(stored, 1);
+            check.due("the word after ST", stored.peek(7, off), stored.state(RingGates.S_ACC));
+        }
+        storeIntoTheCode();
+    }
+
+    private static void storeIntoTheCode() {
         RingGates g = new RingGates(2, 8, 4);
         g.defineSegment(0, 8, 7, 0);
-        Check.program(g, 0, 0, Check.word(RingGates.OP_PTR, 0, 7), Check.word(RingGates.OP_LD),
-            Check.word(RingGates.OP_PTR, 0, 4), Check.word(RingGates.OP_ST), 0);
-        g.poke(0, 7, Check.immediate(RingGates.OP_LDI, 999));
+        int made = Code.immediate(RingGates.OP_LDI, 999);
+        Code.put(g, 0, 0, Code.op(RingGates.OP_PTR, 0, 7), Code.op(RingGates.OP_LD),
+            Code.op(RingGates.OP_PTR, 0, 4), Code.op(RingGates.OP_ST));
+        g.poke(0, 7, made);
         g.start(0, 0, 0);
-        check.due("a program that writes its next word", g.run(5), 5);
-        check.due("A", g.state(RingGates.S_ACC), 999);
+        check.reaches(g, 3);
+        check.completes(g, "ST into the next word", View.of(g).next().word(0, 4, made));
+        check.completes(g, "the word that was written", View.of(g).next().state(RingGates.S_ACC, 999));
     }
 
-    private static void everyWordValue() {
-        int[] values = {0, 1, -1, 65536, Integer.MIN_VALUE, Integer.MAX_VALUE};
-        for (int value : values) {
-            RingGates g = new RingGates(8, 32, 4);
-            g.defineSegment(0, 8, RingGates.FLAG_EXEC, 0);
-            g.defineSegment(7, 32, 3, 0);
-            g.poke(7, 31, value);
-            Check.program(g, 0, 0, Check.word(RingGates.OP_PTR, 7, 31), Check.word(RingGates.OP_LD),
-                Check.word(RingGates.OP_PTR, 7, 0), Check.word(RingGates.OP_ST));
-            g.start(0, 0, 0);
-            check.due("copying", g.run(4), 4);
-            check.due("A", g.state(RingGates.S_ACC), value);
-            check.due("the copy", g.peek(7, 0), value);
+    private static void asAccess() {
+        for (int op : OPS) {
+            int kind = op == RingGates.OP_LD ? RingGates.KIND_READ : RingGates.KIND_WRITE;
+            for (int ring = 0; ring <= 7; ring++) {
+                for (int lower = 0; lower <= ring; lower++) {
+                    RingGates g = lowered(op, ring, lower);
+                    boolean open = g.access(TARGET, LAST, ring, kind);
+                    check.is("op " + op + " with eff = " + ring, g.run(1) == 1, open);
+                }
+            }
+            for (int off : new int[] {0, LAST, LENGTH, 255}) {
+                RingGates g = ready(op, 0, TARGET, off);
+                target(g, 3, 0, 0);
+                boolean open = g.access(TARGET, off, 0, kind);
+                check.is("op " + op + " at " + off, g.run(1) == 1, open);
+            }
         }
     }
 }

@@ -1,152 +1,193 @@
-import java.util.List;
-
-/** Promise 10: the register, arithmetic, jump and halt instructions, and the decoding of a word. */
+/** Promise 10: the register, arithmetic and jump instructions. */
 public final class Promise10RegistersTest {
-    private static final Check check = new Check("promise 10, registers and jumps");
-    private static final int[] IMMEDIATES = {0, 1, 255, 256, 257, 32767, 32768, 65535};
+    private static final Check check = new Check("promise 10, registers");
+    private static final int[] IMMEDIATES = {0, 1, 255, 256, 257, 32767, 32768, 65534, 65535};
+    private static final int MIN = Integer.MIN_VALUE;
+    private static final int MAX = Integer.MAX_VALUE;
 
     public static void main(String[] args) {
-        immediates();
-        additionWraps();
-        pointers();
-        swap();
-        rings();
-        jumps();
-        everyOpcode();
-        highBitsAreIgnored();
+        check.sentence("`OP_HLT`: status becomes `STATUS_HALTED`; IC unchanged.", Promise10RegistersTest::halt);
+        check.sentence("`OP_LDI`: A = v (0..65535); next.", Promise10RegistersTest::loadImmediate);
+        check.sentence("`OP_ADI`: A = A+v", Promise10RegistersTest::addImmediate);
+        check.sentence("wrapping as 32-bit int arithmetic; next.", Promise10RegistersTest::additionWraps);
+        check.sentence("`OP_PTR`: P = (x, y, R); next.", Promise10RegistersTest::makePointer);
+        check.sentence("`OP_ADP`: P.off = (P.off+y)&255;", Promise10RegistersTest::offsetWraps);
+        check.sentence("P.seg and P.ring unchanged; next.", Promise10RegistersTest::segAndRingStay);
+        check.sentence("`OP_SWP`: exchange P and Q; next.", Promise10RegistersTest::swap);
+        check.sentence("`OP_RNG`: A = R; next.", Promise10RegistersTest::currentRing);
+        check.sentence("`OP_PRG`: A = P.ring; next.", Promise10RegistersTest::ringOfP);
+        check.sentence("`OP_JMP`: IC.off = y, with IC.seg unchanged.", Promise10RegistersTest::jump);
+        check.sentence("A target at or beyond L faults with `F_BOUND` on the next fetch.",
+            Promise10RegistersTest::jumpBeyondTheLength);
+        check.sentence("`OP_JZ`: if A == 0 then IC.off = y, else next.", Promise10RegistersTest::jumpIfZero);
         check.end();
     }
 
-    private static RingGates with(int ring, int... words) {
-        RingGates g = new RingGates(4, 16, 4);
-        g.defineSegment(2, 16, RingGates.FLAG_EXEC, Check.brackets(0, 7, 7));
-        Check.program(g, 2, 0, words);
-        g.start(2, 0, ring);
-        return g;
+    private static void halt() {
+        RingGates g = Code.ready(3, Code.immediate(RingGates.OP_LDI, 7), Code.op(RingGates.OP_HLT, 200, 100));
+        check.reaches(g, 1);
+        check.completes(g, "HLT", View.of(g).state(RingGates.S_STATUS, RingGates.STATUS_HALTED));
+        check.due("a run after that", g.run(1), 0);
     }
 
-    private static void immediates() {
+    private static void loadImmediate() {
         for (int v : IMMEDIATES) {
-            RingGates g = with(0, Check.immediate(RingGates.OP_LDI, v), Check.immediate(RingGates.OP_ADI, v));
-            check.due("LDI", g.run(1), 1);
-            check.process("LDI " + v, g, RingGates.STATUS_READY, 0, 0, Check.ic(2, 1), v, 1);
-            check.due("ADI", g.run(1), 1);
-            check.process("ADI " + v, g, RingGates.STATUS_READY, 0, 0, Check.ic(2, 2), 2 * v, 2);
+            for (int former : Code.INTS) {
+                RingGates g = Code.withA(former, Code.immediate(RingGates.OP_LDI, v));
+                check.completes(g, "LDI " + v, View.of(g).next().state(RingGates.S_ACC, v));
+            }
+        }
+    }
+
+    private static void adds(int former, int v, int sum) {
+        RingGates g = Code.withA(former, Code.immediate(RingGates.OP_ADI, v));
+        check.due("A before ADI", g.state(RingGates.S_ACC), former);
+        check.completes(g, former + " + " + v, View.of(g).next().state(RingGates.S_ACC, sum));
+    }
+
+    private static void addImmediate() {
+        for (int v : IMMEDIATES) {
+            adds(0, v, v);
+            adds(100, v, 100 + v);
+            adds(-100, v, v - 100);
+            adds(-65535, v, v - 65535);
+            adds(MAX - 65535, v, MAX - 65535 + v);
+            adds(MIN, v, MIN + v);
         }
     }
 
     private static void additionWraps() {
-        RingGates g = with(0, Check.word(RingGates.OP_PTR, 0, 3), Check.word(RingGates.OP_LD),
-            Check.immediate(RingGates.OP_ADI, 65535), Check.immediate(RingGates.OP_ADI, 1));
-        g.defineSegment(0, 4, RingGates.FLAG_READ, Check.brackets(0, 7, 7));
-        g.poke(0, 3, Integer.MAX_VALUE);
-        g.run(3);
-        check.due("A beyond the greatest int", g.state(RingGates.S_ACC), Integer.MAX_VALUE + 65535);
-        g.poke(0, 3, -1);
-        g.start(2, 0, 0);
-        g.run(2);
-        check.due("a negative A", g.state(RingGates.S_ACC), -1);
-        g.run(2);
-        check.due("A beyond -1", g.state(RingGates.S_ACC), 65535);
+        adds(MAX, 0, MAX);
+        adds(MAX, 1, MIN);
+        adds(MAX, 2, MIN + 1);
+        adds(MAX, 65535, MIN + 65534);
+        adds(MAX - 1, 1, MAX);
+        adds(MAX - 65534, 65534, MAX);
+        adds(MAX - 65534, 65535, MIN);
+        adds(-1, 1, 0);
+        adds(-1, 65535, 65534);
     }
 
-    private static void pointers() {
+    private static void makePointer() {
         for (int ring = 0; ring <= 7; ring++) {
-            for (int y = 0; y <= 255; y += 51) {
-                for (int step = 0; step <= 255; step += 17) {
-                    RingGates g = with(ring, Check.word(RingGates.OP_PTR, 255 - y, y),
-                        Check.word(RingGates.OP_ADP, 77, step));
-                    check.due("PTR", g.run(1), 1);
-                    check.due("P", g.state(RingGates.S_P), Check.pointer(255 - y, y, ring));
-                    check.due("Q", g.state(RingGates.S_Q), ring);
-                    check.process("PTR", g, RingGates.STATUS_READY, 0, ring, Check.ic(2, 1), 0, 1);
-                    check.due("ADP", g.run(1), 1);
-                    check.due("P + " + step, g.state(RingGates.S_P),
-                        Check.pointer(255 - y, (y + step) % 256, ring));
-                    check.due("Q", g.state(RingGates.S_Q), ring);
-                    check.process("ADP", g, RingGates.STATUS_READY, 0, ring, Check.ic(2, 2), 0, 2);
+            for (int x : new int[] {0, 1, 3, 4, 8, 128, 255}) {
+                for (int y : new int[] {0, 1, 16, 32, 128, 255}) {
+                    RingGates g = Code.ready(ring, Code.op(RingGates.OP_PTR, x, y));
+                    check.completes(g, "PTR " + x + " " + y + " at ring " + ring,
+                        View.of(g).next().state(RingGates.S_P, Code.pointer(x, y, ring)));
                 }
             }
         }
     }
 
-    private static void swap() {
-        RingGates g = with(5, Check.word(RingGates.OP_PTR, 9, 8), Check.word(RingGates.OP_SWP),
-            Check.word(RingGates.OP_PTR, 7, 6), Check.word(RingGates.OP_SWP));
-        g.run(2);
-        check.due("P", g.state(RingGates.S_P), Check.pointer(0, 0, 5));
-        check.due("Q", g.state(RingGates.S_Q), Check.pointer(9, 8, 5));
-        g.run(2);
-        check.due("P", g.state(RingGates.S_P), Check.pointer(9, 8, 5));
-        check.due("Q", g.state(RingGates.S_Q), Check.pointer(7, 6, 5));
-        check.process("SWP", g, RingGates.STATUS_READY, 0, 5, Check.ic(2, 4), 0, 4);
+    private static RingGates withPointer(int seg, int off, int ring, int step) {
+        RingGates g = Code.ready(ring, Code.op(RingGates.OP_PTR, seg, off), Code.op(RingGates.OP_ADP, 77, step));
+        check.reaches(g, 1);
+        return g;
     }
 
-    private static void rings() {
-        for (int ring = 0; ring <= 7; ring++) {
-            RingGates g = with(ring, Check.word(RingGates.OP_RNG), Check.word(RingGates.OP_CALL, 3, 1));
-            g.defineSegment(3, 16, RingGates.FLAG_EXEC, Check.brackets(0, 2, 7));
-            g.addGate(3, 1);
-            Check.program(g, 3, 1, Check.word(RingGates.OP_RNG), Check.word(RingGates.OP_PRG),
-                Check.word(RingGates.OP_PTR, 0, 0), Check.word(RingGates.OP_PRG));
-            g.run(1);
-            check.due("RNG", g.state(RingGates.S_ACC), ring);
-            g.run(2);
-            check.due("RNG in the call", g.state(RingGates.S_ACC), Math.min(ring, 2));
-            g.run(1);
-            check.due("PRG in the call", g.state(RingGates.S_ACC), ring);
-            g.run(2);
-            check.due("PRG of a new pointer", g.state(RingGates.S_ACC), Math.min(ring, 2));
-            check.due("completed", g.state(RingGates.S_COUNT), 6);
-        }
-    }
-
-    private static void jumps() {
-        for (int y = 0; y <= 255; y++) {
-            RingGates g = with(1, Check.word(RingGates.OP_JMP, 3, y));
-            check.due("JMP", g.run(1), 1);
-            check.process("JMP " + y, g, RingGates.STATUS_READY, 0, 1, Check.ic(2, y), 0, 1);
-            RingGates zero = with(1, Check.word(RingGates.OP_JZ, 3, y));
-            check.due("JZ with A = 0", zero.run(1), 1);
-            check.process("JZ " + y + " with A = 0", zero, RingGates.STATUS_READY, 0, 1, Check.ic(2, y), 0, 1);
-            RingGates not = with(1, Check.immediate(RingGates.OP_LDI, 1), Check.word(RingGates.OP_JZ, 3, y));
-            check.due("JZ with A = 1", not.run(2), 2);
-            check.process("JZ " + y + " with A = 1", not, RingGates.STATUS_READY, 0, 1, Check.ic(2, 2), 1, 2);
-            if (y >= 16) {
-                check.due("the fetch beyond L", g.run(1), 0);
-                check.process("JMP " + y + " beyond L", g, RingGates.STATUS_FAULTED, RingGates.F_BOUND,
-                    1, Check.ic(2, y), 0, 1);
+    private static void offsetWraps() {
+        for (int off = 0; off <= 255; off += 5) {
+            for (int step : new int[] {0, 1, 2, 127, 128, 254, 255, 255 - off, (256 - off) % 256}) {
+                RingGates g = withPointer(9, off, 5, step);
+                int due = off + step > 255 ? off + step - 256 : off + step;
+                check.completes(g, off + " + " + step,
+                    View.of(g).next().state(RingGates.S_P, Code.pointer(9, due, 5)));
             }
         }
-        RingGates negative = with(0, Check.word(RingGates.OP_PTR, 0, 0), Check.word(RingGates.OP_LD),
-            Check.word(RingGates.OP_JZ, 0, 9));
-        negative.defineSegment(0, 4, RingGates.FLAG_READ, 0);
-        negative.poke(0, 0, -65536);
-        negative.run(3);
-        check.process("JZ with a negative A", negative, RingGates.STATUS_READY, 0, 0, Check.ic(2, 3), -65536, 3);
     }
 
-    private static void everyOpcode() {
-        for (int op = 16; op <= 255; op++) {
-            RingGates g = with(3, Check.immediate(RingGates.OP_LDI, 4), Check.word(op, 2, 1));
-            g.run(1);
-            check.faults(g, "op " + op, RingGates.F_OPCODE);
+    private static void segAndRingStay() {
+        for (int ring = 0; ring <= 7; ring++) {
+            for (int seg : new int[] {0, 1, 127, 128, 254, 255}) {
+                RingGates g = withPointer(seg, 255, ring, 1);
+                check.reaches(g, 1);
+                check.due("P", g.state(RingGates.S_P), Code.pointer(seg, 0, ring));
+            }
         }
-        RingGates g = with(3, Check.word(RingGates.OP_HLT, 200, 100));
-        List<String> want = Check.fullView(g);
-        want.set(0, "state(0)=" + RingGates.STATUS_HALTED);
-        want.set(8, "state(8)=1");
-        check.due("HLT", g.run(9), 1);
-        check.same("HLT", Check.fullView(g), want);
+        RingGates g = calledWithPointer(6, 1, Code.op(RingGates.OP_ADP, 0, 255));
+        check.completes(g, "ADP of a pointer of a higher ring than R",
+            View.of(g).next().state(RingGates.S_P, Code.pointer(9, 7, 6)));
     }
 
-    private static void highBitsAreIgnored() {
-        for (int op = 0; op <= 16; op++) {
-            for (int high = 1; high <= 255; high += 127) {
-                RingGates plain = with(2, Check.word(op, 2, 3));
-                RingGates marked = with(2, Check.word(op, 2, 3) | high << 24);
-                check.due("op " + op + " with high bits " + high, marked.run(1), plain.run(1));
-                check.same("op " + op + " with high bits " + high, Check.processView(marked), Check.processView(plain));
+    private static void swap() {
+        RingGates g = Code.ready(5, Code.op(RingGates.OP_PTR, 255, 254), Code.op(RingGates.OP_SWP),
+            Code.op(RingGates.OP_PTR, 7, 6), Code.op(RingGates.OP_SWP), Code.op(RingGates.OP_SWP));
+        check.reaches(g, 1);
+        check.completes(g, "the first SWP", View.of(g).next().state(RingGates.S_P, Code.pointer(0, 0, 5))
+            .state(RingGates.S_Q, Code.pointer(255, 254, 5)));
+        check.reaches(g, 1);
+        check.completes(g, "the second SWP", View.of(g).next().state(RingGates.S_P, Code.pointer(255, 254, 5))
+            .state(RingGates.S_Q, Code.pointer(7, 6, 5)));
+        check.completes(g, "the third SWP", View.of(g).next().state(RingGates.S_P, Code.pointer(7, 6, 5))
+            .state(RingGates.S_Q, Code.pointer(255, 254, 5)));
+    }
+
+    /** A call into a lower ring or the same one, with P = (9, 8) of the caller's ring, before this word. */
+    private static RingGates calledWithPointer(int ring, int lower, int word) {
+        RingGates g = Code.ready(ring, Code.immediate(RingGates.OP_LDI, 1000), Code.op(RingGates.OP_PTR, 9, 8),
+            Code.op(RingGates.OP_CALL, Code.FREE, 1));
+        g.defineSegment(Code.FREE, 16, RingGates.FLAG_EXEC, Code.brackets(lower, lower, 7));
+        g.addGate(Code.FREE, 1);
+        g.poke(Code.FREE, 1, word);
+        check.reaches(g, 3);
+        return g;
+    }
+
+    private static void currentRing() {
+        for (int ring = 0; ring <= 7; ring++) {
+            for (int lower = 0; lower <= ring; lower++) {
+                RingGates g = calledWithPointer(ring, lower, Code.op(RingGates.OP_RNG, 1, 2));
+                check.completes(g, "RNG at ring " + lower, View.of(g).next().state(RingGates.S_ACC, lower));
+            }
+        }
+    }
+
+    private static void ringOfP() {
+        for (int ring = 0; ring <= 7; ring++) {
+            for (int lower = 0; lower <= ring; lower++) {
+                RingGates g = calledWithPointer(ring, lower, Code.op(RingGates.OP_PRG, 1, 2));
+                check.completes(g, "PRG of P of ring " + ring, View.of(g).next().state(RingGates.S_ACC, ring));
+            }
+        }
+        RingGates g = calledWithPointer(6, 2, Code.op(RingGates.OP_PTR, 0, 0));
+        g.poke(Code.FREE, 2, Code.op(RingGates.OP_PRG));
+        check.reaches(g, 1);
+        check.completes(g, "PRG of a new P", View.of(g).next().state(RingGates.S_ACC, 2));
+    }
+
+    private static void jump() {
+        for (int y = 0; y <= 255; y++) {
+            RingGates g = Code.ready(1, Code.op(RingGates.OP_SWP), Code.op(RingGates.OP_JMP, 3, y));
+            check.reaches(g, 1);
+            check.completes(g, "JMP " + y, View.of(g).state(RingGates.S_IC, Code.ic(Code.CODE, y)));
+        }
+    }
+
+    private static void jumpBeyondTheLength() {
+        for (int length = 1; length <= 32; length++) {
+            for (int y : new int[] {length - 1, length, length + 1, 32, 254, 255}) {
+                RingGates g = new RingGates(4, 32, 4);
+                g.defineSegment(2, 32, RingGates.FLAG_EXEC, 0);
+                g.defineSegment(1, length, RingGates.FLAG_EXEC, 0);
+                g.poke(1, 0, Code.op(RingGates.OP_JMP, 0, y));
+                g.start(1, 0, 0);
+                check.completes(g, "the jump itself", View.of(g).state(RingGates.S_IC, Code.ic(1, y)));
+                if (y >= length) {
+                    check.faults(g, "the fetch at " + y + " with length " + length, RingGates.F_BOUND);
+                } else {
+                    check.due("the fetch of the last word", g.run(1), 1);
+                }
+            }
+        }
+    }
+
+    private static void jumpIfZero() {
+        for (int former : Code.INTS) {
+            for (int y : new int[] {0, 1, 2, 15, 16, 255}) {
+                RingGates g = Code.withA(former, Code.op(RingGates.OP_JZ, 3, y));
+                View want = former == 0 ? View.of(g).state(RingGates.S_IC, Code.ic(Code.CODE, y)) : View.of(g).next();
+                check.completes(g, "JZ " + y + " with A = " + former, want);
             }
         }
     }
