@@ -21,9 +21,13 @@ final class Check {
         sentences++;
         shown = 0;
         int before = asked;
-        test.run();
-        if (asked == before) {
-            tell("no call was checked");
+        try {
+            test.run();
+            if (asked == before) {
+                tell("no call was checked");
+            }
+        } catch (RuntimeException thrown) {
+            tell("a call threw " + thrown);
         }
         sentence = "";
     }

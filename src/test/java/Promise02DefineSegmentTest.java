@@ -156,6 +156,8 @@ public final class Promise02DefineSegmentTest {
         RingGates g = new RingGates(8, 32, 4);
         for (int seg = 0; seg < 8; seg++) {
             g.defineSegment(seg, 32, 7, Code.brackets(0, 0, 7));
+        }
+        for (int seg = 0; seg < 8; seg++) {
             for (int off = 0; off < 32; off++) {
                 g.poke(seg, off, 1000 * seg + off + 1);
             }

@@ -77,8 +77,11 @@ public final class Promise03AddGateTest {
                     refused(g, seg, 31 - index - seg);
                 }
             }
-            check.no("not a gate of slot 0", g.access(0, 24, 7, RingGates.KIND_CALL));
-            check.yes("a gate of another slot alone", g.addGate(0, 24));
+        }
+        for (int seg = 0; seg < 8; seg++) {
+            for (int other = 0; other < 8; other++) {
+                check.is("a gate of slot " + other + " for " + seg, gated(1).addGate(seg, 31 - other), other != seg);
+            }
         }
     }
 

@@ -89,10 +89,10 @@ public final class Promise10RegistersTest {
     private static void offsetWraps() {
         for (int off = 0; off <= 255; off += 5) {
             for (int step : new int[] {0, 1, 2, 127, 128, 254, 255, 255 - off, (256 - off) % 256}) {
-                RingGates g = withPointer(9, off, 5, step);
+                RingGates g = withPointer(4, off, 5, step);
                 int due = off + step > 255 ? off + step - 256 : off + step;
                 check.completes(g, off + " + " + step,
-                    View.of(g).next().state(RingGates.S_P, Code.pointer(9, due, 5)));
+                    View.of(g).next().state(RingGates.S_P, Code.pointer(4, due, 5)));
             }
         }
     }
@@ -105,9 +105,15 @@ public final class Promise10RegistersTest {
                 check.due("P", g.state(RingGates.S_P), Code.pointer(seg, 0, ring));
             }
         }
-        RingGates g = calledWithPointer(6, 1, Code.op(RingGates.OP_ADP, 0, 255));
-        check.completes(g, "ADP of a pointer of a higher ring than R",
+        RingGates g = calledWithPointer(6, 1, Code.op(RingGates.OP_SWP));
+        Code.put(g, Code.FREE, 2, Code.op(RingGates.OP_PTR, 5, 5), Code.op(RingGates.OP_SWP),
+            Code.op(RingGates.OP_ADP, 0, 255), Code.op(RingGates.OP_SWP), Code.op(RingGates.OP_ADP, 0, 255));
+        check.reaches(g, 3);
+        check.completes(g, "ADP of P of ring 6, with R = 1 and Q of ring 1",
             View.of(g).next().state(RingGates.S_P, Code.pointer(9, 7, 6)));
+        check.reaches(g, 1);
+        check.completes(g, "ADP of P of ring 1, with Q of ring 6",
+            View.of(g).next().state(RingGates.S_P, Code.pointer(5, 4, 1)));
     }
 
     private static void swap() {
@@ -123,11 +129,11 @@ public final class Promise10RegistersTest {
             .state(RingGates.S_Q, Code.pointer(255, 254, 5)));
     }
 
-    /** A call into a lower ring or the same one, with P = (9, 8) of the caller's ring, before this word. */
-    private static RingGates calledWithPointer(int ring, int lower, int word) {
+    /** In a call from one ring into another, with P = (9, 8) of the caller's ring, before this word. */
+    private static RingGates calledWithPointer(int ring, int entered, int word) {
         RingGates g = Code.ready(ring, Code.immediate(RingGates.OP_LDI, 1000), Code.op(RingGates.OP_PTR, 9, 8),
             Code.op(RingGates.OP_CALL, Code.FREE, 1));
-        g.defineSegment(Code.FREE, 16, RingGates.FLAG_EXEC, Code.brackets(lower, lower, 7));
+        g.defineSegment(Code.FREE, 16, RingGates.FLAG_EXEC, Code.brackets(entered, entered, 7));
         g.addGate(Code.FREE, 1);
         g.poke(Code.FREE, 1, word);
         check.reaches(g, 3);
@@ -136,17 +142,17 @@ public final class Promise10RegistersTest {
 
     private static void currentRing() {
         for (int ring = 0; ring <= 7; ring++) {
-            for (int lower = 0; lower <= ring; lower++) {
-                RingGates g = calledWithPointer(ring, lower, Code.op(RingGates.OP_RNG, 1, 2));
-                check.completes(g, "RNG at ring " + lower, View.of(g).next().state(RingGates.S_ACC, lower));
+            for (int entered = 0; entered <= 7; entered++) {
+                RingGates g = calledWithPointer(ring, entered, Code.op(RingGates.OP_RNG, 1, 2));
+                check.completes(g, "RNG at ring " + entered, View.of(g).next().state(RingGates.S_ACC, entered));
             }
         }
     }
 
     private static void ringOfP() {
         for (int ring = 0; ring <= 7; ring++) {
-            for (int lower = 0; lower <= ring; lower++) {
-                RingGates g = calledWithPointer(ring, lower, Code.op(RingGates.OP_PRG, 1, 2));
+            for (int entered = 0; entered <= 7; entered++) {
+                RingGates g = calledWithPointer(ring, entered, Code.op(RingGates.OP_PRG, 1, 2));
                 check.completes(g, "PRG of P of ring " + ring, View.of(g).next().state(RingGates.S_ACC, ring));
             }
         }
@@ -185,7 +191,8 @@ public final class Promise10RegistersTest {
     private static void jumpIfZero() {
         for (int former : Code.INTS) {
             for (int y : new int[] {0, 1, 2, 15, 16, 255}) {
-                RingGates g = Code.withA(former, Code.op(RingGates.OP_JZ, 3, y));
+                RingGates g = Code.withA(former, Code.op(RingGates.OP_SWP), Code.op(RingGates.OP_JZ, 3, y));
+                check.reaches(g, 1);
                 View want = former == 0 ? View.of(g).state(RingGates.S_IC, Code.ic(Code.CODE, y)) : View.of(g).next();
                 check.completes(g, "JZ " + y + " with A = " + former, want);
             }

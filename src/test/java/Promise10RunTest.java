@@ -170,7 +170,7 @@ public final class Promise10RunTest {
         check.same("run(" + steps + ")", View.of(whole), View.of(single));
     }
 
-    /** Each fault once, in a process that has completed steps and holds values. */
+    /** Each fault once, in a process whose frames, stack and registers all hold something. */
     private static void everyFault() {
         faultAt(Code.op(RingGates.OP_CALL, 0, 0), RingGates.F_SEG);
         faultAt(Code.op(RingGates.OP_CALL, Code.DATA, 16), RingGates.F_BOUND);
@@ -179,7 +179,7 @@ public final class Promise10RunTest {
         faultAt(Code.op(RingGates.OP_LD), RingGates.F_READ);
         faultAt(Code.op(RingGates.OP_ST), RingGates.F_WRITE);
         faultAt(Code.op(RingGates.OP_PUSH), RingGates.F_STACK);
-        faultAt(Code.op(RingGates.OP_RET), RingGates.F_FRAMES);
+        faultAt(Code.op(RingGates.OP_CALL, Code.CODE, 0), RingGates.F_FRAMES);
         faultAt(Code.op(16), RingGates.F_OPCODE);
         RingGates g = full();
         g.defineSegment(Code.CODE, 16, RingGates.FLAG_READ, 0);
@@ -188,18 +188,19 @@ public final class Promise10RunTest {
     }
 
     private static RingGates full() {
-        RingGates g = Code.ready(5, Code.immediate(RingGates.OP_LDI, 9), Code.op(RingGates.OP_PUSH),
-            Code.op(RingGates.OP_PUSH), Code.op(RingGates.OP_PUSH), Code.op(RingGates.OP_PUSH),
-            Code.op(RingGates.OP_PTR, Code.FREE, 7), Code.op(RingGates.OP_SWP),
-            Code.op(RingGates.OP_PTR, Code.FREE, 6));
+        RingGates g = Code.ready(5, Code.op(RingGates.OP_CALL, Code.CODE, 1), Code.op(RingGates.OP_CALL, Code.CODE, 2),
+            Code.op(RingGates.OP_CALL, Code.CODE, 3), Code.op(RingGates.OP_CALL, Code.CODE, 4),
+            Code.immediate(RingGates.OP_LDI, 9), Code.op(RingGates.OP_PUSH), Code.op(RingGates.OP_PUSH),
+            Code.op(RingGates.OP_PUSH), Code.op(RingGates.OP_PUSH), Code.op(RingGates.OP_PTR, Code.FREE, 7),
+            Code.op(RingGates.OP_SWP), Code.op(RingGates.OP_PTR, Code.FREE, 6));
         g.defineSegment(Code.FREE, 8, RingGates.FLAG_EXEC, Code.brackets(0, 0, 7));
-        check.reaches(g, 8);
+        check.reaches(g, 12);
         return g;
     }
 
     private static void faultAt(int word, int code) {
         RingGates g = full();
-        g.poke(Code.CODE, 8, word);
+        g.poke(Code.CODE, 12, word);
         check.faults(g, "the fault " + code, code);
     }
 

@@ -41,8 +41,8 @@ final class Scene {
             g.run(status == RingGates.STATUS_READY ? 9 : 50);
         }
         if (g.state(RingGates.S_STATUS) != status) {
-            System.out.println("a scene has status " + g.state(RingGates.S_STATUS) + ", due is " + status);
-            System.exit(1);
+            throw new IllegalStateException("a scene has status " + g.state(RingGates.S_STATUS)
+                + ", due is " + status);
         }
         return g;
     }
