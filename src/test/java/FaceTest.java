@@ -114,6 +114,7 @@ public final class FaceTest {
         check.no("a lambda or a method reference", code.contains("->") || code.contains("::"));
         check.no("a text", code.contains("\""));
         check.no("an array of arrays", code.contains("[][]"));
+        check.no("a static initialiser", Pattern.compile("\\bstatic\\s*\\{").matcher(code).find());
         Matcher made = Pattern.compile("\\bnew\\b[^;]*;").matcher(code);
         while (made.find()) {
             check.yes(made.group() + " has a constant length", made.group().matches("new int\\[[A-Z_0-9]+\\];"));

@@ -1,4 +1,4 @@
-/** The section 'What it is': the terms that belong to all promises. FaceTest has its constants. */
+/** The sections 'What it is' and 'Not promised', which belong to all promises. FaceTest has the constants. */
 public final class TermsTest {
     private static final Check check = new Check("what it is");
 
@@ -18,6 +18,8 @@ public final class TermsTest {
         check.sentence("It holds 0..depth frames.", TermsTest::frames);
         check.sentence("An IC is packed as seg*256+off. A pointer is packed as seg<<16 | off<<8 | ring.",
             TermsTest::packedForms);
+        check.sentence("Values removed from a ring stack (by `OP_POP` or by the cut made at `OP_RET`) "
+            + "cannot be observed through any method.", TermsTest::removedValues);
         check.end();
     }
 
@@ -157,5 +159,41 @@ public final class TermsTest {
         check.due("the IC behind it", g.state(RingGates.S_IC), 1824);
         check.due("P = (1, 2, 7)", g.state(RingGates.S_P), 66055);
         check.due("Q = (0, 0, 7)", g.state(RingGates.S_Q), 7);
+    }
+
+    /** Two processes that removed different values look the same, then and after the next PUSH. */
+    private static void removedValues() {
+        for (int ring = 0; ring <= 7; ring++) {
+            RingGates popped = afterPop(ring, 5);
+            RingGates otherPopped = afterPop(ring, 6);
+            check.same("after POP", View.of(popped), View.of(otherPopped));
+            check.due("the next PUSH", popped.run(1), otherPopped.run(1));
+            check.same("after the next PUSH", View.of(popped), View.of(otherPopped));
+            RingGates cut = afterCut(ring, 5);
+            RingGates otherCut = afterCut(ring, 6);
+            check.same("after RET", View.of(cut), View.of(otherCut));
+            check.due("the next PUSH", cut.run(1), otherCut.run(1));
+            check.same("after the next PUSH", View.of(cut), View.of(otherCut));
+        }
+    }
+
+    /** The words that made the values are overwritten, so that only the stack could still tell them. */
+    private static RingGates afterPop(int ring, int value) {
+        RingGates g = Code.ready(ring, Code.immediate(RingGates.OP_LDI, value), Code.op(RingGates.OP_PUSH),
+            Code.op(RingGates.OP_PUSH), Code.op(RingGates.OP_POP), Code.op(RingGates.OP_POP),
+            Code.immediate(RingGates.OP_LDI, 1), Code.op(RingGates.OP_PUSH));
+        check.reaches(g, 6);
+        g.poke(Code.CODE, 0, 0);
+        return g;
+    }
+
+    private static RingGates afterCut(int ring, int value) {
+        RingGates g = Code.ready(ring, Code.op(RingGates.OP_CALL, Code.CODE, 3),
+            Code.immediate(RingGates.OP_LDI, 1), Code.op(RingGates.OP_PUSH),
+            Code.immediate(RingGates.OP_LDI, value), Code.op(RingGates.OP_PUSH), Code.op(RingGates.OP_PUSH),
+            Code.op(RingGates.OP_RET));
+        check.reaches(g, 6);
+        g.poke(Code.CODE, 3, 0);
+        return g;
     }
 }
